@@ -19,8 +19,8 @@ public final class FaceTest {
         "int put(int,int,int)", "int copy(int,int,int,int,int)", "int bind(int)", "int function(int,int)", "int play(int,int,int,int,int,int)",
         "boolean agree(int,int,int)", "int find(int,int)", "long next(int)", "int state()", "int count(int)"};
     private static final String[] CONSTANTS = {"BAD", "FULL", "OWN", "ZERO", "NONE", "KIND", "INDEX", "SIZE", "STORE"};
-    private static final String FORBIDDEN = "\\b(throw|throws|try|catch|synchronized|assert|import|package|Double|Float|Object|hashCode|toString)\\b"
-        + "|->|::|@|Math\\.\\w*Exact|StrictMath|System\\.(?!arraycopy)|Math\\.(?!min\\()";
+    private static final String FORBIDDEN = "\\b(throw|throws|try|catch|synchronized|assert|package|Double|Float|Object|hashCode)\\b"
+        + "|\\bimport (?!java\\.util\\.(ArrayList|Arrays|Iterator|List);)|(?m:^(?!\\s*(case|default)\\b).*->)|::|\\w+Exact\\b|\\bStrictMath\\b|\\bSystem\\.(?!arraycopy\\()";
 
     private static int wrong = 0;
 

@@ -2,7 +2,7 @@ import java.util.Random;
 
 /** Runs of 512 calls, the same ones each time, on CallWays2 and on PlainModel side by side. */
 public final class ModelTest {
-    private static final int RUNS = 6000, CALLS = 512, MOST_TOLD = 20;
+    private static final int RUNS = 12000, CALLS = 512, MOST_TOLD = 20;
     private static final int[] EDGES = {Integer.MIN_VALUE, Integer.MIN_VALUE + 1, -1001, -1000, -8, -1, 0, 1, 7, 8, 500, 999, 1000, 1001, 32768, 70000,
         16777217, Integer.MAX_VALUE - 1, Integer.MAX_VALUE};
 
@@ -34,7 +34,8 @@ public final class ModelTest {
             real.block(i, i % 4, 8 * i + 8);
             model.block(i, i % 4, 8 * i + 8);
         }
-        for (int i = 0; i < CALLS - 10; i++) {
+        // Ten calls are behind us, and a state() follows each one to come.
+        for (int i = 0; i < (CALLS - 10) / 2; i++) {
             step();
             if (got == due && real.state() != model.state()) {
                 call += ", then state()";
