@@ -6,10 +6,13 @@ public final class CallWays2 {
     public static final int BAD = -1, FULL = -2, OWN = -3, ZERO = -4, NONE = -5, KIND = -6, INDEX = -7, SIZE = -8, STORE = -9;
 
     private static final int SHORTS = 0, INTS = 1, FLOATS = 2, DOUBLES = 3;
+    private static final int TONE = 0, GLASS = 1, DRUM = 2, BELL = 3, READER = 4;
     private static final int BY_MEMBERS = 0, BY_HANDLE = 1, BY_FUNCTION = 2;
+    private static final int SUM = 0, PRODUCT = 1, LESSER = 2, GREATER = 3, UNLESS_ALIKE = 5;
     private static final int MOST_INSTRUMENTS = 12, MOST_BLOCKS = 10, MOST_FUNCTIONS = 8;
-    private static final int MOST_SAMPLES = 40, MOST_PITCH = 127, MOST_SORT = 4, MOST_KIND = 5;
+    private static final int MOST_SAMPLES = 40, MOST_PITCH = 127;
     private static final int UNBOUND = -1, NO_BLOCK = -1, NOT_FOUND = -1, BAD_BINDING = -2;
+    private static final long FLOAT_SIGN = -1L << 31, DOUBLE_SIGN = -1L << 63;
 
     private final Instrument[] instruments = new Instrument[MOST_INSTRUMENTS];
     private final Function[] functions = new Function[MOST_FUNCTIONS];
@@ -29,7 +32,7 @@ public final class CallWays2 {
     }
 
     public int instrument(int sort) {
-        if (sort < 0 || sort > MOST_SORT) {
+        if (sort < TONE || sort > READER) {
             return BAD;
         }
         if (instrumentCount >= MOST_INSTRUMENTS) {
@@ -172,7 +175,7 @@ public final class CallWays2 {
     }
 
     public int function(int kind, int a) {
-        if (kind < 0 || kind > MOST_KIND) {
+        if (kind < SUM || kind > UNLESS_ALIKE) {
             return BAD;
         }
         if (functionCount >= MOST_FUNCTIONS) {
@@ -267,13 +270,13 @@ public final class CallWays2 {
 
     private static Instrument newInstrument(int sort) {
         switch (sort) {
-            case 0:
+            case TONE:
                 return new Tone();
-            case 1:
+            case GLASS:
                 return new Glass();
-            case 2:
+            case DRUM:
                 return new Drum();
-            case 3:
+            case BELL:
                 return new Bell();
             default:
                 return new Reader();
@@ -515,21 +518,22 @@ public final class CallWays2 {
         }
 
         boolean refuses(double x) {
-            return kind == 5 && x == a;
+            return kind == UNLESS_ALIKE && x == a;
         }
 
         double shaped(double x) {
             switch (kind) {
-                case 0:
+                case SUM:
                     return x + a;
-                case 1:
+                case PRODUCT:
                     return x * a;
-                case 2:
+                case LESSER:
                     // a is never -0.0, x may be: of two zeros the lesser is then x, the greater a.
                     return a < x ? a : x;
-                case 3:
+                case GREATER:
                     return x > a ? x : a;
                 default:
+                    // Kind 4, and 5 where it does not refuse x.
                     return x;
             }
         }
@@ -551,12 +555,12 @@ public final class CallWays2 {
 
         long ofFloat(double x) {
             long size = sizeBits(x < 0.0 ? 0.0 - x : x, 127, 23);
-            return isSigned(x) ? size + (long) Integer.MIN_VALUE : size;
+            return isSigned(x) ? size + FLOAT_SIGN : size;
         }
 
         long ofDouble(double x) {
             long size = sizeBits(x < 0.0 ? 0.0 - x : x, 1023, 52);
-            return isSigned(x) ? size + Long.MIN_VALUE : size;
+            return isSigned(x) ? size + DOUBLE_SIGN : size;
         }
 
         /** Only a division tells -0.0 from 0.0; it answers an infinity. */
